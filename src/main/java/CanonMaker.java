@@ -579,6 +579,8 @@ public final class CanonMaker {
         final int[] touched = new int[MOST_MOMENTS];
         /** For each moment the voices' places, NONE for those that are silent. */
         final int[] places = new int[MOST_MOMENTS * VOICES];
+        /** Bit v: voice v's note begins at this moment. */
+        final int[] strikes = new int[MOST_MOMENTS];
         int count;
 
         Score() {
@@ -626,7 +628,8 @@ public final class CanonMaker {
 
         void placeVoices(int centreNote) {
             for (int m = 0; m < count; m++) {
-                int needed = 0;
+                touched[m] = 0;
+                strikes[m] = 0;
                 for (int v = 0; v < VOICES; v++) {
                     Line line = lines[v];
                     int place = line.on ? line.placeAt(moments[m]) : NONE;
@@ -634,9 +637,11 @@ public final class CanonMaker {
                         place = NONE;
                     }
                     places[m * VOICES + v] = place;
-                    needed |= place == NONE ? 0 : notesAround(line, place, centreNote);
+                    if (place != NONE) {
+                        touched[m] |= notesAround(line, place, centreNote);
+                        strikes[m] |= line.timeOf(place) == moments[m] ? 1 << v : 0;
+                    }
                 }
-                touched[m] = needed;
             }
         }
 
@@ -713,7 +718,7 @@ public final class CanonMaker {
                     Line line = score.lines[v];
                     present[presentCount] = v;
                     presentCount++;
-                    struck[v] = line.timeOf(p) == time;
+                    struck[v] = (score.strikes[m] >> v & 1) != 0;
                     now[v] = line.pitches[p];
                     old[v] = line.before[p] == NONE ? SILENT : line.pitches[line.before[p]];
                     next[v] = line.behind[p] == NONE ? SILENT : line.pitches[line.behind[p]];
@@ -789,10 +794,9 @@ public final class CanonMaker {
 
         /** Also where an open pitch leaves it undecided: then it is no fault yet. */
         private boolean isFourthGood(int a, int b) {
-            int lower = Math.min(now[a], now[b]);
             for (int i = 0; i < presentCount; i++) {
                 int pitch = now[present[i]];
-                if (pitch == UNKNOWN || pitch < lower) {
+                if (pitch == UNKNOWN || pitch < now[a] && pitch < now[b]) {
                     return true;
                 }
             }
@@ -823,10 +827,13 @@ public final class CanonMaker {
             }
             int first = now[v] - old[v];
             int second = next[v] - now[v];
-            boolean up = first > 0 && second > 0;
-            boolean down = first < 0 && second < 0;
-            boolean small = Math.abs(first) <= WIDEST_STEP && Math.abs(second) <= WIDEST_STEP;
-            return (up || down) && small ? STEPWISE : OTHERWISE;
+            boolean up = isStepUp(first) && isStepUp(second);
+            boolean down = isStepUp(-first) && isStepUp(-second);
+            return up || down ? STEPWISE : OTHERWISE;
+        }
+
+        private static boolean isStepUp(int move) {
+            return move >= 1 && move <= WIDEST_STEP;
         }
 
         /**

@@ -14,6 +14,7 @@ public final class FindingTest {
         solveNoWay();
         solveMoreStepsThanTold();
         solveOpenCentre();
+        solvePassing();
         solveManySteps();
         shiftsRefused();
         shiftsOfNothing();
@@ -163,6 +164,23 @@ public final class FindingTest {
         due("solve(3000)", x.solve(3000), 1);
         due("C", x.told(1, 0), 65);
         due("steps()", x.steps(), 6);
+    }
+
+    /** What is told last settles whether the note before it was passing. */
+    private static void solvePassing() {
+        CanonMaker x = new CanonMaker();
+        x.note(60, 4);
+        x.note(-1, 1);
+        x.note(60, 1);
+        x.note(62, 1);
+        x.note(-2, 1);
+        x.voice(1, 5, 0, 0, 1);
+        x.rules(12);
+        x.span(51, 70);
+        // At 6 62 is above a 60 that is held; 51, 52, 53, 56 .. are good with it at 7, but no steps.
+        due("solve(3000)", x.solve(3000), 1);
+        due("a step on", x.told(4, 0), 63);
+        due("steps()", x.steps(), 13);
     }
 
     private static void solveManySteps() {

@@ -38,6 +38,7 @@ public final class JudgingTest {
         hidden();
         crossing();
         order();
+        manyMoments();
         CHECKS.finish();
     }
 
@@ -286,6 +287,25 @@ public final class JudgingTest {
         dueFaults("of the later voices", x, f(2, 64, 1, 3), f(6, 64, 1, 3));
         x.pitch(0, -2);
         dueFaults("open", x, f(6, 64, 1, 3));
+    }
+
+    /** All notes of all voices begin at times of their own, and at others once the voices change. */
+    private static void manyMoments() {
+        CanonMaker x = subject(3, 16, 60);
+        for (int n = 1; n < 24; n++) {
+            x.note(60, 16);
+        }
+        x.span(0, 10);
+        x.scale(0);
+        for (int shift = 0; shift < 15; shift += 3) {
+            for (int v = 1; v < 4; v++) {
+                x.voice(v, shift + v, 0, 0, 1);
+            }
+            due("faults() of 96 moments", x.faults(), 192);
+            due("the last one's time", x.fault(191, 0), 23 * 16 + shift + 3);
+            due("the last one's rule", x.fault(191, 1), 2);
+            due("the last one's voice", x.fault(191, 3), 3);
+        }
     }
 
     private static void order() {

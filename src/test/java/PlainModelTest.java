@@ -13,16 +13,18 @@ public final class PlainModelTest {
 
     public static void main(String[] args) {
         Random random = new Random(20261115);
+        CanonMaker x = new CanonMaker();
         for (int run = 0; run < 6000; run++) {
-            compare(run, random);
+            // What an earlier canon leaves behind in an object must not show in a later one.
+            x = run % 20 == 0 ? new CanonMaker() : x;
+            compare(run, x, random);
         }
         CHECKS.finish();
     }
 
-    private static void compare(int run, Random random) {
+    private static void compare(int run, CanonMaker x, Random random) {
         Model model = new Model();
-        CanonMaker x = new CanonMaker();
-        fill(model, x, random, run % 3 == 0);
+        fill(model, x, random, run % 2 == 0);
         String name = "run " + run + " " + model.tell();
         CHECKS.due(name + " size()", x.size(), model.size());
         CHECKS.due(name + " end()", x.end(), model.end());
@@ -38,7 +40,9 @@ public final class PlainModelTest {
         int most = random.nextInt(4) == 0 ? random.nextInt(12) : random.nextInt(600);
         int want = model.solve(most);
         CHECKS.due(name + " solve(" + most + ")", x.solve(most), want);
-        CHECKS.due(name + " steps()", x.steps(), model.steps);
+        if (want != -3) {
+            CHECKS.due(name + " steps()", x.steps(), model.steps);
+        }
         for (int n = 0; n < model.pitches.size(); n++) {
             CHECKS.due(name + " told(" + n + ", 0)", x.told(n, 0), model.pitches.get(n));
         }
@@ -64,6 +68,7 @@ public final class PlainModelTest {
     }
 
     private static void fill(Model model, CanonMaker x, Random random, boolean open) {
+        x.cut(0);
         int notes = random.nextInt(7) + (random.nextInt(10) == 0 ? 8 : 0);
         int longest = random.nextBoolean() ? 2 : 5;
         int width = random.nextBoolean() ? 5 : 15;
@@ -76,6 +81,7 @@ public final class PlainModelTest {
             x.note(pitch, length);
         }
         for (int v = 1; v < 4; v++) {
+            x.off(v);
             if (random.nextInt(3) > 0) {
                 int factor = random.nextInt(3) > 0 ? 1 : 1 + random.nextInt(3);
                 int[] told = {random.nextInt(9), random.nextInt(25) - 12, random.nextInt(4), factor};
@@ -86,8 +92,8 @@ public final class PlainModelTest {
         if (random.nextBoolean()) {
             int size = model.size();
             model.round = random.nextInt(3) > 0 ? Math.min(400, size * (1 + random.nextInt(3))) : random.nextInt(40);
-            x.round(model.round);
         }
+        x.round(model.round);
         model.rules = random.nextBoolean() ? random.nextInt(256) : 1 << random.nextInt(8) | random.nextInt(2) * 8;
         x.rules(model.rules);
         model.beat = 1 + random.nextInt(6);
@@ -95,12 +101,12 @@ public final class PlainModelTest {
         if (random.nextBoolean()) {
             model.low = 55 + random.nextInt(6);
             model.high = model.low + random.nextInt(15);
-            x.span(model.low, model.high);
         }
+        x.span(model.low, model.high);
         if (random.nextBoolean()) {
             model.scale = random.nextInt(4096) | random.nextInt(4096);
-            x.scale(model.scale);
         }
+        x.scale(model.scale);
     }
 
     /** A note of a line: when it begins, how long it is, its pitch or SILENT or OPEN. */

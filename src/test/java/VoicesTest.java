@@ -15,6 +15,7 @@ public final class VoicesTest {
         atPlain();
         atModes();
         atInvertedOpen();
+        atRests();
         atRound();
         atLongerThanRound();
         CHECKS.finish();
@@ -168,6 +169,19 @@ public final class VoicesTest {
         x.pitch(2, -2);
         due("an open one with C", x.at(1, 2), 1001);
         due("C itself", x.at(1, 1), 60);
+    }
+
+    private static void atRests() {
+        CanonMaker x = new CanonMaker();
+        for (int n = 0; n < 24; n++) {
+            x.note(-1, 1);
+        }
+        x.voice(1, 0, 5, 3, 2);
+        x.rules(255);
+        due("a line of rests", x.at(0, 23), 1000);
+        due("an inverted line of rests", x.at(1, 47), 1000);
+        due("no faults of rests", x.faults(), 0);
+        due("shifts of rests", x.shifts(1), 625);
     }
 
     private static void atRound() {
