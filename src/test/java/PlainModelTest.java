@@ -1,6 +1,7 @@
 import java.util.ArrayList;
 import java.util.List;
 import java.util.Random;
+import java.util.function.Supplier;
 
 /**
  * Promises 14 to 21 against a plain model that goes through all times one by one and judges all
@@ -13,29 +14,41 @@ public final class PlainModelTest {
 
     public static void main(String[] args) {
         Random random = new Random(20261115);
-        CanonMaker x = new CanonMaker();
+        Model before = new Model();
         for (int run = 0; run < 6000; run++) {
-            // What an earlier canon leaves behind in an object must not show in a later one.
-            x = run % 20 == 0 ? new CanonMaker() : x;
-            compare(run, x, random);
+            Model model = randomModel(random, run % 2 == 0);
+            compare(run, before, model, random);
+            before = model;
         }
         CHECKS.finish();
     }
 
-    private static void compare(int run, CanonMaker x, Random random) {
-        Model model = new Model();
-        fill(model, x, random, run % 2 == 0);
+    /** What an earlier canon leaves behind in an object must not show in a later one. */
+    private static CanonMaker make(Model before, Model model) {
+        CanonMaker x = new CanonMaker();
+        before.putInto(x);
+        x.faults();
+        x.shifts(1);
+        x.solve(20);
+        model.putInto(x);
+        return x;
+    }
+
+    private static void compare(int run, Model before, Model model, Random random) {
         String name = "run " + run + " " + model.tell();
+        Supplier<CanonMaker> maker = () -> make(before, model);
+        CanonMaker x = maker.get();
         CHECKS.due(name + " size()", x.size(), model.size());
         CHECKS.due(name + " end()", x.end(), model.end());
         for (int v = -1; v <= 4; v++) {
+            CanonMaker y = maker.get();
             for (int t = -1; t <= model.end(); t++) {
-                CHECKS.due(name + " at(" + v + ", " + t + ")", x.at(v, t), model.at(v, t));
+                CHECKS.due(name + " at(" + v + ", " + t + ")", y.at(v, t), model.at(v, t));
             }
         }
-        compareFaults(name, model, x);
+        compareFaults(name, model, maker);
         for (int v = 1; v <= 3 && run % 4 == 0; v++) {
-            compareShifts(name, model, x, v);
+            compareShifts(name, model, maker, v);
         }
         int most = random.nextInt(4) == 0 ? random.nextInt(12) : random.nextInt(600);
         int want = model.solve(most);
@@ -46,67 +59,74 @@ public final class PlainModelTest {
         for (int n = 0; n < model.pitches.size(); n++) {
             CHECKS.due(name + " told(" + n + ", 0)", x.told(n, 0), model.pitches.get(n));
         }
-        compareFaults(name + " solved", model, x);
+        CHECKS.due(name + " solved faults()", x.faults(), model.tooLong(15) ? -3 : model.faults(15).size());
+        compareFaults(name + " solved", model, maker);
     }
 
-    private static void compareFaults(String name, Model model, CanonMaker x) {
+    private static void compareFaults(String name, Model model, Supplier<CanonMaker> maker) {
+        CanonMaker x = maker.get();
         if (model.tooLong(15)) {
             CHECKS.due(name + " faults()", x.faults(), -3);
             CHECKS.due(name + " fault(0, 0)", x.fault(0, 0), -3);
-        } else {
-            CHECKS.dueFaults(name, x, model.faults(15).toArray(new int[0][]));
+            return;
+        }
+        List<int[]> want = model.faults(15);
+        CHECKS.due(name + " faults()", x.faults(), want.size());
+        CHECKS.due(name + " fault(" + want.size() + ", 0)", x.fault(want.size(), 0), -1);
+        for (int k = 0; k < want.size(); k++) {
+            // An object is asked for 50 faults, as it has but 512 calls.
+            x = k % 50 == 0 ? maker.get() : x;
+            for (int what = 0; what < 4; what++) {
+                CHECKS.due(name + " fault(" + k + ", " + what + ")", x.fault(k, what), want.get(k)[what]);
+            }
         }
     }
 
-    private static void compareShifts(String name, Model model, CanonMaker x, int v) {
+    private static void compareShifts(String name, Model model, Supplier<CanonMaker> maker, int v) {
         List<int[]> want = model.shifts(v);
+        CanonMaker x = maker.get();
         CHECKS.due(name + " shifts(" + v + ")", x.shifts(v), want == null ? -3 : want.size());
         for (int k = 0; want != null && k < want.size(); k++) {
+            if (k > 0 && k % 100 == 0) {
+                x = maker.get();
+                x.shifts(v);
+            }
             CHECKS.due(name + " shift(" + k + ", 0)", x.shift(k, 0), want.get(k)[0]);
             CHECKS.due(name + " shift(" + k + ", 1)", x.shift(k, 1), want.get(k)[1]);
         }
     }
 
-    private static void fill(Model model, CanonMaker x, Random random, boolean open) {
-        x.cut(0);
+    private static Model randomModel(Random random, boolean open) {
+        Model model = new Model();
         int notes = random.nextInt(7) + (random.nextInt(10) == 0 ? 8 : 0);
         int longest = random.nextBoolean() ? 2 : 5;
         int width = random.nextBoolean() ? 5 : 15;
         for (int n = 0; n < notes; n++) {
             int kind = random.nextInt(12);
-            int pitch = kind == 0 ? -1 : kind < 5 && open ? -2 : 60 + random.nextInt(width);
-            int length = 1 + random.nextInt(longest);
-            model.pitches.add(pitch);
-            model.lengths.add(length);
-            x.note(pitch, length);
+            model.pitches.add(kind == 0 ? -1 : kind < 5 && open ? -2 : 60 + random.nextInt(width));
+            model.lengths.add(1 + random.nextInt(longest));
         }
         for (int v = 1; v < 4; v++) {
-            x.off(v);
             if (random.nextInt(3) > 0) {
                 int factor = random.nextInt(3) > 0 ? 1 : 1 + random.nextInt(3);
-                int[] told = {random.nextInt(9), random.nextInt(25) - 12, random.nextInt(4), factor};
-                model.voices[v] = told;
-                x.voice(v, told[0], told[1], told[2], told[3]);
+                int delay = random.nextInt(8) == 0 ? random.nextInt(101) : random.nextInt(9);
+                model.voices[v] = new int[] {delay, random.nextInt(25) - 12, random.nextInt(4), factor};
             }
         }
         if (random.nextBoolean()) {
             int size = model.size();
             model.round = random.nextInt(3) > 0 ? Math.min(400, size * (1 + random.nextInt(3))) : random.nextInt(40);
         }
-        x.round(model.round);
         model.rules = random.nextBoolean() ? random.nextInt(256) : 1 << random.nextInt(8) | random.nextInt(2) * 8;
-        x.rules(model.rules);
         model.beat = 1 + random.nextInt(6);
-        x.beat(model.beat);
         if (random.nextBoolean()) {
             model.low = 55 + random.nextInt(6);
             model.high = model.low + random.nextInt(15);
         }
-        x.span(model.low, model.high);
         if (random.nextBoolean()) {
             model.scale = random.nextInt(4096) | random.nextInt(4096);
         }
-        x.scale(model.scale);
+        return model;
     }
 
     /** A note of a line: when it begins, how long it is, its pitch or SILENT or OPEN. */
@@ -125,6 +145,24 @@ public final class PlainModelTest {
         int round = 0;
         int rules = 0;
         int steps = 0;
+
+        void putInto(CanonMaker x) {
+            x.cut(0);
+            for (int n = 0; n < pitches.size(); n++) {
+                x.note(pitches.get(n), lengths.get(n));
+            }
+            for (int v = 1; v < 4; v++) {
+                x.off(v);
+                if (voices[v] != null) {
+                    x.voice(v, voices[v][0], voices[v][1], voices[v][2], voices[v][3]);
+                }
+            }
+            x.span(low, high);
+            x.scale(scale);
+            x.beat(beat);
+            x.round(round);
+            x.rules(rules);
+        }
 
         String tell() {
             StringBuilder text = new StringBuilder(pitches + " " + lengths + " voices");
