@@ -20,6 +20,8 @@ public final class FindingBoundsTest {
         rulesThatAreOffDoNotCount();
         faultAtTheBeginning();
         solvingInARound();
+        solvingAnInvertedLine();
+        solvingWhatIsPassing();
         solvingNeedsNoLineTooLong();
         stepsOfTheLatest();
         delaysToTheSize();
@@ -246,6 +248,43 @@ public final class FindingBoundsTest {
         }
     }
 
+    /** C settles all of an inverted line, also what is far from it. */
+    private static void solvingAnInvertedLine() {
+        CanonMaker x = Canons.notes(1, new int[][] {{-1, 1}, {-2, 1}, {-1, 1}, {62, 1}, {-1, 1}, {70, 1}});
+        x.voice(1, 0, 0, 1, 1);
+        x.span(60, 70);
+        // 2 C less 70 is in the span from 65 on, 2 C less 62 up to 66.
+        due("solve(5)", x.solve(5), -6);
+        due("solve(6)", x.solve(6), 1);
+        due("C", x.told(1, 0), 65);
+        due("the inverted 70", x.at(1, 5), 60);
+        x.pitch(1, -2);
+        x.span(62, 66);
+        x.pitch(5, 66);
+        x.voice(1, 0, 6, 1, 1);
+        // 2 C less 66 and 6 is in 62 .. 66 for 61 .. 63, 2 C less 62 and 6 for 59 .. 61: none of 62 .. 66.
+        due("no C", x.solve(5), 0);
+        due("all five were tried", x.steps(), 5);
+    }
+
+    /** What is behind a note settles whether it was passing, at a time before its own. */
+    private static void solvingWhatIsPassing() {
+        CanonMaker x = Canons.notes(4 | 8, new int[][] {{60, 4}, {-1, 1}, {60, 1}, {62, 1}, {-2, 1}});
+        x.voice(1, 5, 0, 0, 1);
+        x.span(60, 70);
+        // At 6 62 is above a held 60; at 7 63 and 64 are good with it, and are steps from 62.
+        due("solve(3)", x.solve(3), -6);
+        due("solve(4)", x.solve(4), 1);
+        due("a step on", x.told(4, 0), 63);
+        x.pitch(4, -2);
+        x.span(65, 127);
+        due("no step on", x.solve(3000), 0);
+        due("all were tried", x.steps(), 63);
+        x.rules(4);
+        due("without PASSING", x.solve(3000), 0);
+        due("62 is a fault at the beginning", x.steps(), 0);
+    }
+
     private static void solvingNeedsNoLineTooLong() {
         for (int r = 3; r <= 5; r++) {
             CanonMaker x = Canons.subject(0, 2, -2, -2);
@@ -361,6 +400,8 @@ public final class FindingBoundsTest {
         x.round(5);
         due("shifts(2) beside a line too long", x.shifts(2), 13 + 13 + 25);
         due("shifts(3), a line too long", x.shifts(3), -3);
+        x.voice(1, 0, 1, 0, 3);
+        due("shifts(2) beside two lines too long", x.shifts(2), 13 + 13 + 25);
         x.round(2);
         // In a round of 2 they are always together.
         due("shifts(2) in a round as long", x.shifts(2), 13 * 3);
@@ -431,6 +472,10 @@ public final class FindingBoundsTest {
         for (int v = -1; v <= 4; v++) {
             due("shifts(" + v + ") with an open note", x.shifts(v), v >= 1 && v <= 3 ? -3 : -1);
         }
+        x.pitch(0, -2);
+        x.pitch(1, 60);
+        due("shifts(1) with an open first note", x.shifts(1), -3);
+        x.pitch(0, 60);
         x.pitch(1, -1);
         due("shifts(1) with a rest", x.shifts(1), 75);
         for (int k : new int[] {Integer.MIN_VALUE, -1, 75, 76, 2525, Integer.MAX_VALUE}) {

@@ -26,6 +26,7 @@ public final class RuleBoundsTest {
         consonanceByDistance();
         consonanceWhereOneIsStruck();
         fourthAboveAnother();
+        fourthAboveAnyOther();
         fourthNeedsAllPitches();
         passingOffTheBeat();
         passingInSteps();
@@ -211,6 +212,21 @@ public final class RuleBoundsTest {
         due("a held one below is enough", Canons.count(held, 4, 4, 0, 1), 0);
     }
 
+    /** Told by the intervals of voices 1 to 3, the two that are a fourth apart, and which one is below. */
+    private static void fourthAboveAnyOther() {
+        int[][] rows = {{12, 17, 17, 1, 2, 0}, {-20, 0, 5, 2, 3, 1}, {-20, 0, 5, 0, 3, 1}, {5, -20, 0, 0, 1, 2},
+            {5, -20, 0, 1, 3, 2}, {5, 0, -20, 0, 1, 3}, {5, 0, -20, 1, 2, 3}};
+        for (int[] row : rows) {
+            CanonMaker x = Canons.subject(4, 1, 60);
+            for (int v = 1; v <= 3; v++) {
+                x.voice(v, 0, row[v - 1], 0, 1);
+            }
+            String name = "a fourth of " + row[3] + " and " + row[4];
+            due(name, Math.abs(x.at(row[3], 0) - x.at(row[4], 0)), 5);
+            due(name + " above " + row[5], Canons.count(x, 0, 4, row[3], row[4]), 0);
+        }
+    }
+
     /** At 0 voice 0 has 60, voice 1 has 65, voice 2 the subject's last note. */
     private static void fourthNeedsAllPitches() {
         int[] last = {-2, -1, 59, 60, 61};
@@ -238,6 +254,8 @@ public final class RuleBoundsTest {
                 x.voice(1, 0, 0, 0, 3);
                 x.beat(beat);
                 due("beat " + beat + " at " + time, Canons.count(x, time, 4, 0, 1), time % beat == 0 ? 1 : 0);
+                x.rules(4);
+                due("without PASSING at " + time, Canons.count(x, time, 4, 0, 1), 1);
             }
         }
         CanonMaker zero = Canons.subject(12, 2, 61, 62, 60);
@@ -344,12 +362,22 @@ public final class RuleBoundsTest {
     private static void movesFromSilence() {
         due("voice 0 had a rest", Canons.moves(48, -1, 62, 72, 74).faults(), 0);
         due("voice 1 had a rest", Canons.moves(48, 60, 62, -1, 74).faults(), 0);
+        due("voice 0 had a rest, voice 1 goes down", Canons.moves(48, -1, 62, 76, 74).faults(), 0);
+        due("voice 1 had a rest, voice 0 goes down", Canons.moves(48, 64, 62, -1, 74).faults(), 0);
         CanonMaker first = Canons.subject(48, 1, 60);
         first.voice(1, 0, 12, 0, 1);
         dueFaults("nothing is before time 0", first, NONE);
         CanonMaker held = Canons.subject(48, 2, 60, 62);
         held.voice(1, 0, 12, 0, 2);
         dueFaults("one is held", held, NONE);
+        // Both go from 60 to 62 to 64, one of them a unit later.
+        CanonMaker later = Canons.subject(48, 2, 60, 62, 64);
+        later.voice(1, 1, 12, 0, 1);
+        dueFaults("voice 1 moves alone", later, NONE);
+        later.voice(1, 3, -12, 0, 1);
+        dueFaults("and voice 0 alone", later, NONE);
+        later.round(6);
+        dueFaults("in a round too", later, NONE);
     }
 
     private static void movesInARound() {

@@ -254,6 +254,15 @@ public final class VoiceBoundsTest {
         }
         due("end() of rests", x.end(), 12);
         due("faults() of rests", x.faults(), 0);
+        CanonMaker most = new CanonMaker();
+        for (int n = 0; n < 24; n++) {
+            most.note(-1, 1);
+        }
+        most.voice(1, 0, 5, 1, 1);
+        due("at(1, 23) of 24 rests", most.at(1, 23), 1000);
+        due("at(1, 0) of 24 rests", most.at(1, 0), 1000);
+        most.pitch(23, 60);
+        due("the last one is C", most.at(1, 23), 65);
     }
 
     private static void endIsWhereTheLastLineEnds() {
@@ -386,8 +395,13 @@ public final class VoiceBoundsTest {
             due("faults()", x.faults(), 0);
         }
         due("at(0, 1)", x.at(0, 1), 1000);
-        x.voice(1, 0, 1, 0, 1);
-        CHECKS.dueFaults("of one time", x, new int[][] {{0, 4, 0, 1}, {0, 64, 0, 1}});
+        for (int delay : new int[] {0, 1, 99, 100}) {
+            x.voice(1, delay, 1, 0, 1);
+            CHECKS.dueFaults("of one time", x, new int[][] {{0, 4, 0, 1}, {0, 64, 0, 1}});
+            x.span(0, 60);
+            CHECKS.dueFaults("struck at it", x, new int[][] {{0, 1, 1, 1}, {0, 4, 0, 1}, {0, 64, 0, 1}});
+            x.span(0, 127);
+        }
         x.voice(1, 0, 1, 0, 2);
         due("a line of two", x.faults(), -3);
     }
